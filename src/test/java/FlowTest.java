@@ -30,6 +30,7 @@ public final class FlowTest {
         stepTo(at(5, w("RJMP", 'k', 4095)), "RJMP -1", 0, 5);
         stepTo(at(0, w("RJMP", 'k', 4090)), "RJMP -6", 0, 1019);
         stepTo(at(7, w("JMP", 'k', 63), 0xFFFF), "JMP", 0, 1023);
+        stepTo(at(7, w("JMP", 'k', 62), 9), "JMP, k even", 0, 9);
         stepTo(at(1023, w("JMP", 'k', 0), 0x0405), "JMP over the end", 0, 5);
         FlagCore x = at(7, w("IJMP"));
         Check.setPair(x, Z, 0xFC07);
@@ -122,6 +123,12 @@ public final class FlowTest {
                 Check.due("return with SP " + sp + ": FLAGS", x.told(2), 0);
                 Check.due("return with SP " + sp + ": WAITED", x.told(6), 0);
             }
+            x = at(9, word);
+            Check.setPair(x, SP, 1021);
+            x.put(1022, 2);
+            x.put(1023, 6);
+            stepTo(x, "return with SP 1021", 0, 518);
+            Check.due("return with SP 1021: SP", x.told(1), 1023);
             x = at(9, word);
             Check.setPair(x, SP, 65535);
             x.put(0, 1);

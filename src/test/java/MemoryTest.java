@@ -244,6 +244,7 @@ public final class MemoryTest {
         Check.due("MOVW: R28", x.data(28), 7);
         Check.due("MOVW: R29", x.data(29), 2);
         Check.due("MOVW: FLAGS", x.told(2), 0x81);
+        Check.due("MOVW: PC", x.told(0), 12);
     }
 
     private static void products() {
