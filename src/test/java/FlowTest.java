@@ -13,13 +13,7 @@ public final class FlowTest {
     }
 
     private static FlagCore at(int pc, int... words) {
-        FlagCore x = new FlagCore();
-        for (int i = 0; i < words.length; i++) {
-            x.code((pc + i) % 1024, words[i]);
-        }
-        x.go(pc);
-        Check.setPair(x, SP, 1000);
-        return x;
+        return Check.at(pc, words);
     }
 
     private static void jumps() {
